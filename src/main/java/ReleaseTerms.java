@@ -246,9 +246,7 @@ public final class ReleaseTerms {
         if (!isPerson(person) || !isDay(day)) {
             return finding(BEYOND);
         }
-        dayWays.prepare(book, person, day, book.terms.binding(person, day));
-        dayWays.exploreForth();
-        if (!dayWays.isThereOne()) {
+        if (!isThereAWay(person, day, book.terms.binding(person, day))) {
             return finding(NONE);
         }
         dayWays.exploreBack();
@@ -274,8 +272,7 @@ public final class ReleaseTerms {
         if (!isPerson(person) || !isDay(day)) {
             return finding(BEYOND);
         }
-        dayWays.prepare(book, person, day, book.terms.binding(person, day));
-        return dayWays.howMany();
+        return isThereAWay(person, day, book.terms.binding(person, day)) ? dayWays.howMany() : 0;
     }
 
     public int bars(int person, int day) {
@@ -614,6 +611,7 @@ public final class ReleaseTerms {
         return dayWays.placesIn(hourOf(when));
     }
 
+    /** Leaves dayWays explored forth, for what is asked of the same WAYS next. */
     private boolean isThereAWay(int person, int day, int obeyed) {
         dayWays.prepare(book, person, day, obeyed);
         dayWays.exploreForth();
@@ -791,7 +789,7 @@ public final class ReleaseTerms {
         /** Where one can be an HOUR after being at one of a set. */
         int stepFrom(int set) {
             int next = set;
-            for (int place = 0; place < PLACES; place++) {
+            for (int place = 0; set != 0 && place < PLACES; place++) {
                 if (has(set, place)) {
                     next |= neighbours[place];
                 }
@@ -1206,7 +1204,8 @@ public final class ReleaseTerms {
             int bad = binds ? book.badPlaces(term) : 0;
             int paying = binds ? 1 << book.terms.field(term, Terms.PLACE) : 0;
             fouled = book.places.stepFrom(fouled) & open[hour];
-            for (int owed = 0; owed <= MOST_ASKED; owed++) {
+            int asked = book.terms.asked(term);
+            for (int owed = 0; owed <= asked; owed++) {
                 int there = book.places.stepFrom(clean[owed]) & open[hour];
                 fouled |= there & bad;
                 clean[owed] = there & ~bad;
@@ -1241,6 +1240,8 @@ public final class ReleaseTerms {
         /** By DEBT and PLACE how many WAYS lead there. */
         private final int[] leading = new int[MOST_DEBTS * PLACES];
         private final int[] leadingNext = new int[MOST_DEBTS * PLACES];
+        /** By PLACE the fewest MOVES still to go from the next HOUR on, if one is there then. */
+        private final int[] ahead = new int[PLACES];
         private int firstDebt;
         private int asking;
 
@@ -1351,28 +1352,31 @@ public final class ReleaseTerms {
             int row = row(hour, debt);
             int set = reached[row];
             toGo[row] = NO_COSTS;
-            for (int place = 0; set != 0 && place < PLACES; place++) {
+            if (set == 0) {
+                return;
+            }
+            lookAhead(hour, debt);
+            for (int place = 0; place < PLACES; place++) {
                 if (has(set, place)) {
-                    setCost(row, place, leastCost(hour, debt, place));
+                    setCost(row, place, leastCost(place));
                 }
             }
         }
 
-        private int leastCost(int hour, int debt, int place) {
-            int least = NO_COST;
+        private void lookAhead(int hour, int debt) {
             for (int next = 0; next < PLACES; next++) {
-                least = Math.min(least, costBy(hour, debt, place, next));
+                ahead[next] = cost(row(hour + 1, pay(debt, hour + 1, next)), next);
             }
-            return least;
         }
 
-        /** MOVES from an HOUR on, if one goes to a PLACE then. */
-        private int costBy(int hour, int debt, int place, int next) {
-            if (!has(steps[place] & allowed[hour + 1], next)) {
-                return NO_COST;
+        private int leastCost(int place) {
+            int least = ahead[place];
+            for (int next = 0; next < PLACES; next++) {
+                if (ahead[next] + 1 < least && has(steps[place], next)) {
+                    least = ahead[next] + 1;
+                }
             }
-            int rest = cost(row(hour + 1, pay(debt, hour + 1, next)), next);
-            return rest == NO_COST || place == next ? rest : rest + 1;
+            return least;
         }
 
         private int cost(int row, int place) {
@@ -1420,19 +1424,21 @@ public final class ReleaseTerms {
         }
 
         private int bestNext(int hour, int debt, int place) {
-            int best = place;
-            int least = NO_COST;
+            lookAhead(hour, debt);
+            int least = leastCost(place);
             for (int next = 0; next < PLACES; next++) {
-                int cost = costBy(hour, debt, place, next);
-                if (cost < least) {
-                    least = cost;
-                    best = next;
+                int move = next == place ? 0 : 1;
+                if (has(steps[place], next) && ahead[next] + move == least) {
+                    return next;
                 }
             }
-            return best;
+            return place;
         }
 
-        /** How many WAYS there are, MOST_WAYS at most; sums cut at every step are right, as none ever falls. */
+        /**
+         * How many WAYS there are, MOST_WAYS at most; sums cut at every step are right, as none ever falls. To be
+         * called behind exploreForth().
+         */
         int howMany() {
             int end = (firstDebt + 1) * PLACES;
             clearNext(end);
@@ -1444,9 +1450,9 @@ public final class ReleaseTerms {
             System.arraycopy(leadingNext, 0, leading, 0, end);
             for (int hour = 1; hour < HOURS; hour++) {
                 clearNext(end);
-                for (int i = 0; i < end; i++) {
-                    if (leading[i] != 0) {
-                        leadOn(hour, i / PLACES, i % PLACES);
+                for (int debt = 0; debt <= firstDebt; debt++) {
+                    if (reached[row(hour - 1, debt)] != 0) {
+                        leadOn(hour, debt);
                     }
                 }
                 System.arraycopy(leadingNext, 0, leading, 0, end);
@@ -1464,15 +1470,23 @@ public final class ReleaseTerms {
             }
         }
 
-        private void leadOn(int hour, int debt, int place) {
-            int set = steps[place] & allowed[hour];
-            int many = leading[debt * PLACES + place];
+        private void leadOn(int hour, int debt) {
             for (int next = 0; next < PLACES; next++) {
-                if (has(set, next)) {
+                if (isAllowed(hour, next)) {
                     int i = pay(debt, hour, next) * PLACES + next;
-                    leadingNext[i] = Math.min(leadingNext[i] + many, MOST_WAYS);
+                    leadingNext[i] = Math.min(leadingNext[i] + leadingTo(debt, next), MOST_WAYS);
                 }
             }
+        }
+
+        private int leadingTo(int debt, int next) {
+            int sum = 0;
+            for (int place = 0; place < PLACES; place++) {
+                if (has(steps[next], place)) {
+                    sum += leading[debt * PLACES + place];
+                }
+            }
+            return sum;
         }
     }
 

@@ -84,6 +84,13 @@ public final class SuretiesTest {
         Due.due("another one", x.surety(3, 7, 2), 1);
         x.back(1);
         Due.due("nothing is given any more", x.surety(4, 8, 2), 1);
+        x.bail(1, 1);
+        x.surety(3, 1, 1);
+        x.call(1);
+        Due.due("one is something", x.surety(4, 8, 2), Due.STATE);
+        Due.due("for them too", x.bail(1, 1), Due.STATE);
+        Due.due("and may not be called for", x.call(1), Due.STATE);
+        x.back(1);
         Due.due("surety 5", x.surety(5, 0, 0), Due.BEYOND);
         Due.due("room 10000", x.surety(0, 10000, 0), Due.BEYOND);
         Due.due("persons 64", x.surety(0, 0, 64), Due.BEYOND);

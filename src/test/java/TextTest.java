@@ -95,6 +95,10 @@ public final class TextTest {
         Due.due("numbers run together", Due.read(x, "road 01"), -1 - 7);
         Due.due("words run together", Due.read(x, "term 0 athours 0"), -1 - 7);
         Due.due("a word too long", Due.read(x, "roads 0 1"), -1);
+        Due.due("a word too long by the last letter", Due.read(x, "roadz 0 1"), -1);
+        Due.due("a word too long by the first letter", Due.read(x, "term 0 ata 0"), -1 - 7);
+        Due.due("another first letter", Due.read(x, "toad 0 1"), -1);
+        Due.due("another last letter", Due.read(x, "roaz 0 1"), -1);
         Due.due("a word too short", Due.read(x, "roa 0 1"), -1);
         Due.due("capitals", Due.read(x, "Road 0 1"), -1);
         Due.due("capitals later", Due.read(x, "roAd 0 1"), -1);

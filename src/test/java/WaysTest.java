@@ -163,6 +163,20 @@ public final class WaysTest {
         Due.due("less those with two", x.ways(0, 0), (1 << 18) - 1 - 18 - 153);
         x.seen(0, 2, 3);
         Due.due("no way", x.ways(0, 0), 0);
+        x.term(2, 1, 1);
+        x.span(2, 0, 0, 0);
+        x.seen(1, 0, 2);
+        x.seen(1, 0, 23);
+        for (int hour = 5; hour < 23; hour++) {
+            x.seen(1, hour % 2, hour);
+        }
+        Due.due("a report in the first hour, and three free ones", x.ways(1, 0), 8);
+        x.span(2, 0, 23, 23);
+        Due.due("a report in the last hour", x.ways(1, 0), 0);
+        x.span(2, 0, 22, 22);
+        Due.due("a report in the last hour but one", x.ways(1, 0), 0);
+        x.span(2, 0, 21, 21);
+        Due.due("where they were seen", x.ways(1, 0), 16);
         Due.due("ways(6, 0)", x.ways(6, 0), Due.BEYOND);
         Due.due("ways(0, 30)", x.ways(0, 30), Due.BEYOND);
         for (int wrong : Due.FAR_OUT) {
