@@ -97,6 +97,17 @@ public final class WaysTest {
         Due.due("on the way to 7 there is a short one", x.way(0, 1), 7);
         tells(x, "to 7", "000000000111222333444567");
         Due.due("three hours ahead of 7", x.may(0, 120), 128 + 64 + 32 + 16);
+        Due.due("many ways to 7", x.ways(0, 1), 1000000);
+        String seen = "000111222333444444444444";
+        for (int hour = 0; hour < 24; hour++) {
+            if (hour != 19) {
+                x.seen(0, seen.charAt(hour) - '0', 200 + hour);
+            }
+        }
+        Due.due("one hour is free", x.ways(0, 2), 3);
+        x.seen(0, 1, 200);
+        Due.due("one too seldom at 0", x.ways(0, 2), 0);
+        Due.due("which bars it", x.bars(0, 2), 0);
     }
 
     private static void at() {
