@@ -5,6 +5,7 @@ final class EdgesOfImages {
 
     static void run() {
         image();
+        imageToTheLast();
         imageLeavesOut();
         undo();
         tear();
@@ -45,6 +46,57 @@ final class EdgesOfImages {
         for (int what = 0; what < 8; what++) {
             Edges.is("termOf(0, " + what + ")", x.termOf(0, what), term[what]);
         }
+    }
+
+    /** The last term, sighting, surety, person and spot are kept too. */
+    private static void imageToTheLast() {
+        ReleaseTerms x = Edges.edge("Promise 45", "All but THE TAPE, SHEETS and the way told is kept");
+        for (int term = 0; term < 12; term++) {
+            x.term(term % 7, term % 3, term % 8);
+        }
+        x.surety(4, 50, 32);
+        x.bail(5, 20);
+        x.call(5);
+        x.hearing(5, 29);
+        x.hold(9, 11);
+        x.hold(0, 3);
+        x.road(6, 7, true);
+        x.drift(5, 29, 20);
+        x.image();
+        for (int term = 0; term < 12; term++) {
+            x.turn(term, 6);
+            x.span(term, 0, 1, 2);
+            x.span(term, 1, 3, 4);
+        }
+        x.back(5);
+        x.bail(5, 1);
+        x.surety(4, 60, 33);
+        x.hearing(5, 28);
+        x.hold(9, 10);
+        x.hold(0, -1);
+        x.hold(5, 0);
+        x.road(6, 7, false);
+        x.drift(5, 29, 20);
+        x.drift(5, 29, 20);
+        Edges.is("twelve terms", x.undo(), 12);
+        for (int term = 0; term < 12; term++) {
+            int[] want = {term % 7, term % 3, term % 8, 0, 23, 0, 29};
+            for (int what = 0; what < 7; what++) {
+                Edges.is("termOf(" + term + ", " + what + ")", x.termOf(term, what), want[what]);
+            }
+        }
+        Edges.is("room", x.suretyOf(4, 0), 30);
+        Edges.is("backed", x.suretyOf(4, 1), 32);
+        Edges.is("given", x.suretyOf(4, 7), 20);
+        Edges.is("heard", x.heard(5), 29);
+        Edges.is("spot 9", x.as(9, 0), 11);
+        Edges.is("spot 0", x.as(0, 0), 3);
+        Edges.is("spot 5", x.as(5, 0), Due.MISSING);
+        Edges.is("roads", x.roads(7), 64);
+        Edges.is("sightings", x.many(0), 20);
+        Edges.is("which all are there", x.seenOf(19, 0), 5);
+        x.back(5);
+        Edges.is("bail", x.bail(5, 0), 20);
     }
 
     private static void imageLeavesOut() {

@@ -22,6 +22,8 @@ final class EdgesOfPointOne {
         keeps();
         verdicts();
         verdictsWithoutRoom();
+        verdictsAtTheEnd();
+        verdictsOneAfterAnother();
     }
 
     private static void places() {
@@ -365,5 +367,39 @@ final class EdgesOfPointOne {
         Edges.is("the day ahead of its days", x.kept(0, 3), Due.NONE);
         Edges.is("its day", x.kept(0, 4), 1);
         Edges.is("the day behind its days", x.kept(0, 5), Due.NONE);
+    }
+
+    private static void verdictsAtTheEnd() {
+        ReleaseTerms x = Edges.edge(POINT, "KEPT (0), if all WAYS of its PERSON keep it; BROKEN (2), if none does; "
+                + "else DOUBT (1).");
+        x.road(0, 1, true);
+        x.term(0, 0, 0);
+        x.term(2, 0, 1);
+        x.term(1, 0, 5);
+        x.span(2, 0, 3, 4);
+        x.seen(0, 1, 23);
+        Edges.is("elsewhere in the last hour, by many ways", x.kept(0, 0), 2);
+        Edges.is("reported in the last hour, or earlier too", x.kept(1, 0), 0);
+        Edges.is("never at 5, and no place is bad in other hours", x.kept(2, 0), 0);
+        x.span(0, 0, 0, 22);
+        Edges.is("at home till then is in doubt", x.kept(0, 0), 1);
+        x.span(1, 0, 0, 22);
+        Edges.is("so is a report till then", x.kept(1, 0), 1);
+    }
+
+    private static void verdictsOneAfterAnother() {
+        ReleaseTerms x = Edges.edge(POINT, "Of a TERM on a DAY (on which it is IN FORCE)");
+        x.road(0, 1, true);
+        x.term(6, 0, 1);
+        x.term(0, 1, 0);
+        x.seen(1, 0, 0);
+        x.road(0, 1, false);
+        Edges.is("a strict one in doubt", x.kept(0, 0), 1);
+        Edges.is("a term that is kept", x.kept(1, 0), 0);
+        x.seen(1, 1, 0);
+        Edges.is("a strict one in doubt again", x.kept(0, 0), 1);
+        Edges.is("a term that is broken", x.kept(1, 0), 2);
+        x.seen(1, 0, 1);
+        Edges.is("a term that is impossible", x.kept(1, 0), 3);
     }
 }

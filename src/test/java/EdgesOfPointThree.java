@@ -65,6 +65,8 @@ final class EdgesOfPointThree {
         fault("ROAD 0 1", 0);
         fault("roaD 0 1", 0);
         fault("azerty", 0);
+        fault("roada 0 1", 0);
+        fault("roadz 0 1", 0);
         ReleaseTerms x = Edges.edge(POINT, "NUMBERS (digits, 9999 at most)");
         Edges.is("9999", Due.read(x, "bail 0 9999"), 1);
         Edges.is("it is so", x.bail(0, 0), 9999);
@@ -296,6 +298,9 @@ final class EdgesOfPointThree {
             Edges.is("nothing at first", x.as(spot, 0), Due.MISSING);
         }
         x.term(0, 0, 0);
+        for (int spot = 0; spot < 10; spot++) {
+            Edges.is("nothing, though there is a term", x.as(spot, 0), Due.MISSING);
+        }
         Edges.within(x, "hold", 0, 9, (o, v) -> o.hold(v, 0));
         Edges.within(x, "as", 0, 9, (o, v) -> o.as(v, 0));
         x = Edges.edge(POINT, "SHEETS 0 to 3: rows of at most 40 numbers of 8, 16 or 32 bits, or MISSING (at first).");

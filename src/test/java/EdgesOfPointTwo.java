@@ -31,6 +31,21 @@ final class EdgesOfPointTwo {
         Edges.is("but on day 5", x.may(0, 500), 250);
         Edges.is("another person", x.may(1, 500), 32);
         Edges.is("one without terms", x.may(2, 500), 255);
+        x = Edges.edge(POINT, "A LAWFUL WAY of a PERSON on a DAY keeps all TERMS of this PERSON that are IN FORCE.");
+        x.term(0, 0, 0);
+        x.span(0, 0, 0, 5);
+        x.term(2, 0, 5);
+        Edges.is("at home till 5, and a report elsewhere without a road", x.ways(0, 0), 0);
+        x.road(0, 5, true);
+        x.seen(0, 5, 23);
+        for (int hour = 7; hour < 23; hour++) {
+            x.seen(0, 0, hour);
+        }
+        Edges.is("with a road: hour 6 is free", x.ways(0, 0), 2);
+        x.turn(1, 3);
+        Edges.is("two reports: hour 6 must be one", x.ways(0, 0), 1);
+        x.turn(1, 6);
+        Edges.is("three are too many", x.ways(0, 0), 0);
     }
 
     private static void isTold(ReleaseTerms x, String places) {

@@ -358,7 +358,12 @@ final class EdgesOfSheets {
             x.sheet(0, 8, n);
             Edges.is(n + " numbers", x.judge(0, 0, 0), 25);
         }
+        x.seen(1, 7, 0);
+        x.seen(2, 7, 23);
+        x.sheet(0, 8, 0);
+        Edges.is("none, where one was seen", x.judge(0, 1, 0), 25);
         x.sheet(0, 8, 23);
+        Edges.is("none for the hour when one was seen", x.judge(0, 2, 0), 25);
         x.write(0, 22, 9);
         Edges.is("the last of 23 is wrong", x.judge(0, 0, 0), 23);
         x.sheet(0, 8, 25);

@@ -113,6 +113,10 @@ final class EdgesOfSureties {
         Edges.is("another person", x.call(1), 0);
         x.back(0);
         Edges.is("anew", x.call(0), 0);
+        x.back(0);
+        x.bail(0, 1);
+        Edges.is("one", x.call(0), 0);
+        Edges.is("one is something", x.call(0), Due.STATE);
     }
 
     private static void back() {

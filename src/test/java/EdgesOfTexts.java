@@ -63,7 +63,12 @@ final class EdgesOfTexts {
         Edges.is("the later item counts", x.bail(0, 0), 8);
         Edges.is("the terms in their order", x.termOf(0, 0) * 10 + x.termOf(1, 0), 45);
         Edges.is("the road", x.roads(1), 1);
+        Edges.is("and no other", x.roads(0), 2);
         Edges.is("nothing is read twice", x.text(), -1);
+        x.bail(0, 0);
+        Edges.is("a shorter text", Due.read(x, "road 0 1"), 1);
+        Edges.is("tells nothing of the longer one", x.bail(0, 0), 0);
+        Edges.is("nor its terms", x.many(1), 2);
         x = Edges.edge("Promise 37", "how many ITEMS.");
         Edges.is("one", Due.read(x, "bail 0 0"), 1);
         Edges.is("as many as can be", Due.read(x, "bail0 1" + ";bail0 1".repeat(14)), 15);

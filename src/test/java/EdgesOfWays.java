@@ -9,6 +9,9 @@ final class EdgesOfWays {
         may();
         ways();
         bars();
+        asking();
+        fiveAsking();
+        movesAtTheRightTime();
     }
 
     private static void isTold(ReleaseTerms x, String places) {
@@ -100,6 +103,14 @@ final class EdgesOfWays {
         Edges.is("none", x.ways(0, 0), 0);
         Edges.within(x, "person", 0, 5, (o, v) -> o.ways(v, 0));
         Edges.within(x, "day", 0, 29, (o, v) -> o.ways(0, v));
+        x = Edges.edge("Promise 23", "How many LAWFUL WAYS a PERSON has on a DAY");
+        x.term(2, 0, 0);
+        x.term(2, 1, 5);
+        x.seen(3, 0, 0);
+        Edges.is("one reports at 0", x.ways(0, 0), 1);
+        Edges.is("one reports at 5, whoever was asked for ahead", x.ways(1, 0), 1);
+        Edges.is("one is free", x.ways(2, 0), 8);
+        Edges.is("one was seen in the first hour, whoever was asked for ahead", x.ways(3, 0), 1);
         countJustBelow(Edges.edge("Promise 23", "1000000 at most"));
         countAbove(Edges.edge("Promise 23", "1000000 at most"));
     }
@@ -197,5 +208,78 @@ final class EdgesOfWays {
         x.seen(0, 0, 0);
         x.seen(0, 1, 1);
         Edges.is("no way at all", x.bars(0, 0), Due.NONE);
+    }
+
+    private static void asking() {
+        ReleaseTerms x = Edges.edge("Promise 20", "MOVES of THE WAY of a PERSON on a DAY; its PLACES are told.");
+        Due.line(x, 0, 7);
+        x.term(2, 0, 2);
+        x.span(0, 0, 0, 0);
+        x.term(2, 0, 1);
+        x.span(1, 0, 1, 1);
+        x.term(2, 0, 0);
+        x.span(2, 0, 23, 23);
+        Edges.is("a report in the first, the second and the last hour", x.way(0, 0), 2);
+        isTold(x, "210000000000000000000000");
+        Edges.is("may in the first hour", x.may(0, 0), 4);
+        Edges.is("may in the second", x.may(0, 1), 2);
+        Edges.is("may in the last", x.may(0, 23), 1);
+        Edges.is("without any of them one may be anywhere", x.may(1, 0), 255);
+        x.span(0, 0, 0, 4);
+        x.span(1, 0, 3, 5);
+        x.turn(1, 3);
+        x.span(2, 0, 4, 6);
+        x.turn(2, 3);
+        Edges.is("one at 2, two at 1, two at 0", x.way(0, 0), 2);
+        isTold(x, "211110000000000000000000");
+        x.term(6, 0, 0);
+        Edges.is("three at 0 all day, some of them for both", x.way(0, 0), 2);
+        isTold(x, "211110000000000000000000");
+        x.term(1, 0, 0);
+        x.span(4, 0, 7, 23);
+        Edges.is("the third at 0 must come first, as 0 is barred from 7 on", x.way(0, 0), 5);
+        isTold(x, "012110011111111111111111");
+    }
+
+    private static void fiveAsking() {
+        ReleaseTerms x = Edges.edge("Promise 23", "How many LAWFUL WAYS a PERSON has on a DAY");
+        Due.line(x, 0, 7);
+        for (int place = 0; place < 5; place++) {
+            x.term(6, 0, place);
+        }
+        Edges.is("as much as can be asked", x.way(0, 0), 4);
+        isTold(x, "000000000000111222333444");
+        Edges.is("very many ways", x.ways(0, 0), 1000000);
+        Edges.is("all are told of in the middle", x.may(0, 12), 255);
+        Edges.is("and in the last hour", x.may(0, 23), 255);
+        String seen = "000111222333444555555555";
+        for (int hour = 0; hour < 24; hour++) {
+            x.seen(0, seen.charAt(hour) - '0', 100 + hour);
+        }
+        Edges.is("one way, just as often as asked", x.ways(0, 1), 1);
+        Edges.is("without a bar", x.bars(0, 1), Due.NONE);
+        x.seen(0, 5, 114);
+        Edges.is("once too seldom at 4", x.ways(0, 1), 0);
+        Edges.is("that bars it", x.bars(0, 1), 4);
+        x.seen(0, 1, 102);
+        Edges.is("at 0 as well", x.bars(0, 1), Due.NONE);
+    }
+
+    private static void movesAtTheRightTime() {
+        ReleaseTerms x = Edges.edge("Promise 20", "MOVES of THE WAY of a PERSON on a DAY");
+        x.road(0, 1, true);
+        x.road(1, 2, true);
+        x.road(0, 3, true);
+        x.road(3, 4, true);
+        x.road(4, 2, true);
+        x.seen(0, 0, 0);
+        x.seen(0, 2, 23);
+        x.term(1, 0, 1);
+        x.span(0, 0, 5, 23);
+        Edges.is("who waits too long must go round", x.way(0, 0), 2);
+        isTold(x, "000012222222222222222222");
+        x.span(0, 0, 0, 23);
+        Edges.is("round", x.way(0, 0), 3);
+        isTold(x, "000000000000000000000342");
     }
 }
